@@ -995,8 +995,8 @@ public final class RingWaters {
         /** What is SHUT tells all of a ROUND: one that comes again goes round in a circle, left out whole. */
         private int roundsToLeaveOut() {
             for (int r = 1; r <= rounds; r++) {
-                if (shutInRound[r] == shut) {
-                    int circle = rounds + 1 - r;
+                int circle = rounds + 1 - r;
+                if (shutInRound[r] == shut && circle > 0) {
                     return (MOST_ROUNDS - rounds - 1) / circle * circle;
                 }
             }
@@ -1230,9 +1230,9 @@ public final class RingWaters {
             isLeakFound = false;
         }
 
+        /** A leak is found by none then, so there is no need to find it anew. */
         void clear() {
             measured = 0;
-            isLeakFound = false;
         }
 
         int count() {

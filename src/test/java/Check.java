@@ -1,0 +1,55 @@
+import java.util.NoSuchElementException;
+
+/** Counts answers that are not as due, tells each, and ends a test with 1 if there was one. */
+final class Check {
+    private static int asked;
+    private static int wrong;
+
+    private Check() { }
+
+    static void due(String what, long got, long want) {
+        asked++;
+        if (got != want) {
+            wrong++;
+            System.out.println(what + " answered " + got + ", due is " + want);
+        }
+    }
+
+    static void isTrue(String what, boolean is) {
+        due(what, is ? 1 : 0, 1);
+    }
+
+    /** Refused by int: NONE, and the trouble. */
+    static void refused(String what, RingWaters x, long got, int why) {
+        due(what, got, RingWaters.NONE);
+        due(what + ", trouble", x.trouble(), why);
+    }
+
+    /** Refused by long: NOTHING, and the trouble. */
+    static void nothing(String what, RingWaters x, long got, int why) {
+        due(what, got, RingWaters.NOTHING);
+        due(what + ", trouble", x.trouble(), why);
+    }
+
+    /** An answer, and no trouble. */
+    static void answers(String what, RingWaters x, long got, long want) {
+        due(what, got, want);
+        due(what + ", trouble", x.trouble(), 0);
+    }
+
+    static void noSuch(String what, RingWaters x, int n) {
+        asked++;
+        try {
+            int j = x.named(n);
+            wrong++;
+            System.out.println(what + " answered " + j + ", due is NoSuchElementException");
+        } catch (NoSuchElementException due) {
+            // as it should be
+        }
+    }
+
+    static void end() {
+        System.out.println(wrong == 0 ? asked + " answers are as due" : wrong + " answers are not as due");
+        System.exit(wrong == 0 ? 0 : 1);
+    }
+}
