@@ -1,7 +1,11 @@
 import static java.lang.Integer.MAX_VALUE;
 import static java.lang.Integer.MIN_VALUE;
 
-/** Promises 6 to 21: what a net that was SOLVED tells. The numbers were found by hand. */
+/**
+ * Promises 6 to 21: what a net that was SOLVED tells. The numbers were found by hand, but for those of
+ * roundsAndSweeps: its nets were looked for by chance, and most of its numbers are the program's own answers,
+ * with which SlowWaters agrees.
+ */
 public final class NetTest {
     static final String RING = "well w 50;joint a 10 at 20;joint b 6 at 10;pipe w a 1;pipe a b 2;pipe w b 3";
     /** To b water would go the wrong way through a check. */
