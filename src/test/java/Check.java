@@ -4,14 +4,22 @@ import java.util.NoSuchElementException;
 final class Check {
     private static int asked;
     private static int wrong;
+    private static int sentences;
+    private static String sentence = "";
 
     private Check() { }
+
+    /** What comes next is a test of this sentence of the document. */
+    static void under(String next) {
+        sentences++;
+        sentence = "[" + next + "] ";
+    }
 
     static void due(String what, long got, long want) {
         asked++;
         if (got != want) {
             wrong++;
-            System.out.println(what + " answered " + got + ", due is " + want);
+            System.out.println(sentence + what + " answered " + got + ", due is " + want);
         }
     }
 
@@ -42,14 +50,15 @@ final class Check {
         try {
             int j = x.named(n);
             wrong++;
-            System.out.println(what + " answered " + j + ", due is NoSuchElementException");
+            System.out.println(sentence + what + " answered " + j + ", due is NoSuchElementException");
         } catch (NoSuchElementException due) {
             // as it should be
         }
     }
 
     static void end() {
-        System.out.println(wrong == 0 ? asked + " answers are as due" : wrong + " answers are not as due");
+        String under = sentences == 0 ? "" : " under " + sentences + " sentences";
+        System.out.println(wrong == 0 ? asked + " answers are as due" + under : wrong + " answers are not as due");
         System.exit(wrong == 0 ? 0 : 1);
     }
 }

@@ -1,11 +1,7 @@
 import static java.lang.Integer.MAX_VALUE;
 import static java.lang.Integer.MIN_VALUE;
 
-/**
- * Promises 6 to 21: what a net that was SOLVED tells. The numbers were found by hand, but for those of
- * roundsAndSweeps: its nets were looked for by chance, and most of its numbers are the program's own answers,
- * with which SlowWaters agrees.
- */
+/** Promises 6 to 21: what a net that was SOLVED tells. The numbers were found by hand. */
 public final class NetTest {
     static final String RING = "well w 50;joint a 10 at 20;joint b 6 at 10;pipe w a 1;pipe a b 2;pipe w b 3";
     /** To b water would go the wrong way through a check. */
@@ -53,9 +49,9 @@ public final class NetTest {
         }
     }
 
-    /** What is SHUT, opened; nets that never come to rest. */
+    /** What is SHUT, opened; nets that never come to rest. (How far this goes, number by number: TermsNetTest.) */
     private static void roundsAndSweeps() {
-        // 60 SWEEPS that still move something: AT REST all the same.
+        // f1 0, then 150, to and fro: 60 SWEEPS that still move something: AT REST all the same.
         abouts(Tape.told("well w 0;joint a 1 at 1;pump w a 3;pump w a 6"), 2, 2, 1, 1, 1, 60, 1, 0, 0, 0, 0);
         // The second pump is opened and shut by turns; the 20th ROUND opens nothing more.
         RingWaters x = Tape.told("well w 0;joint a 2 at 2;pump w a 5;pump w a 9");
@@ -63,7 +59,9 @@ public final class NetTest {
         Check.answers("flow as the last sweep left it", x, x.flow(0), 2);
         Check.answers("flow of the shut one", x, x.flow(1), 0);
         Check.answers("head as the last sweep left it", x, x.head(1), 500);
-        // The pump to the well is shut, then opened: four ROUNDS, and one stays shut.
+        // f0 -11, f2 -5. RING w -> a -> w, (f1, f0): -300 by 5: 60, 49; 14,400 by 485: 30, 19; 3,600 by 245: 15, 4;
+        // 600 by 125: 10, -1; 100 by 85: 9, -2; 24 by 77. EDGE 0 is SHUT; f2 is -5: EDGE 2 is SHUT, b is DRY.
+        // HEAD of a 4,000 less 144, LIFT 300: EDGE 0 is opened. f0 -6: 60, 54; 30, 24; 15, 9; 10, 4; 9, 3.
         x = Tape.told("well w 40;joint a 6 at 1;joint b 5 at 2;pump a w 3;pipe w a 4;pump b a 1");
         abouts(x, 3, 3, 1, 1, 4, 6, 6, 0, 4, 4, 0);
         Check.answers("the pump opened again", x, x.flow(0), 3);
@@ -75,15 +73,8 @@ public final class NetTest {
         // The check to a was shut, but a is DRY once its own check is: so it is opened.
         x = Tape.told("well w 0;joint a 1 at 0;joint b 7 at 0;pipe b w 4;check b a 3;check a w 3");
         shuts(x, 1, 4, 0, 4, -8, 1, 0);
-        // a has less HEAD than the well, and a pump away from it that is too weak: it stays shut.
+        // (f1, f0): 0, -6; 20, 14; 10, 4; 6, 0; 5, -1. SHUT; a has 144 less HEAD than the well, and a pump of 100: it stays shut.
         shuts(Tape.told("well w 0;joint a 6 at 0;pump a w 1;pipe w a 4"), 1, 2, 0, 1, 0, 6);
-        // By 57 the pump lifts nothing, so a has the well's HEAD: HEAD that is the same opens nothing.
-        shuts(Tape.told("well w 0;joint a 6 at 0;check w a 1;pump w a 8;pipe a w 1"), 1, 2, 0, 1, 0, 57, 51);
-        // LIFT by FLOW 0 opens it, again and again, though HEADS alone would not.
-        shuts(Tape.told("well w 50;joint a 3 at 0;pump w a 8;pump w a 7"), 0, 20, 0, 1, 0, 3);
-        // b has 1 less than the well, and the check's LOSS by FLOW 0, not by 1, is looked at.
-        shuts(Tape.told("well w 20;joint a 3 at 0;joint b 8 at 0;pipe w a 2;pump a b 5;pipe b w 1;check w b 1"),
-                0, 20, 0, 8, 10, 7, -1, 0);
     }
 
     private static void shuts(RingWaters x, int rest, int rounds, int dry, int shut, long... flows) {
