@@ -5,8 +5,8 @@ import java.util.function.IntToLongFunction;
 
 /**
  * Promises 2 to 41, sentence by sentence: of each number that a call takes the last that is taken and the first that is
- * refused, on both sides; what is empty, what is full. (What is refused without a TEXT: TextTest, Promise 1.) The
- * numbers were found by hand.
+ * refused, on both sides; what is empty, what is full. (Promise 1, a new object: TextTest. What is refused without a TEXT,
+ * and by which of several numbers: TermsActsTest.) The numbers were found by hand.
  */
 public final class PromisesTest {
     private static final String TINY = "well w 9;joint a 1 at 0;pipe w a 1";
@@ -57,6 +57,7 @@ public final class PromisesTest {
         named();
         size();
         trouble();
+        everyCallOnAFullNet();
         Check.end();
     }
 
@@ -176,6 +177,24 @@ public final class PromisesTest {
         Tape.tell(x, "well w 9;joint a 1 at 0;joint b 0 at 0;check w a 1;pump w b 3");
         Check.answers("SHUT", x, x.about(9), 0);
         Check.answers("a second LIFT", x, x.lossAt(1, 10, 0), 0);
+        Check.under("3 all that there was is gone: a longer RING, more of them");
+        Tape.tell(x, "well w 9;joint a 1 at 0;joint b 2 at 0;joint c 3 at 0;joint d 4 at 0;pipe w a 1;pipe a b 2;pipe b c 3;"
+                + "pipe w d 4;pipe d c 5;pipe a d 6;pipe b d 7");
+        x.gap(0);
+        // Its RING has EDGES 2, 1, 0: the third is one of the next TEXT's, too.
+        Tape.tell(x, "well w 9;joint a 1 at 0;joint b 1 at 0;pipe w a 1;pipe w b 1;pipe a b 1");
+        x.gap(0);
+        x.scaled(300);
+        Tape.tell(x, "well w 9;joint a 4 at 0;pipe w a 1;pipe w a 1");
+        // -16 by 1 and 9: 2 in either.
+        Check.answers("gap", x, x.gap(0), 16);
+        Check.answers("FLOW", x, x.flow(0), 2);
+        Check.answers("FLOW beside it", x, x.flow(1), 2);
+        Check.answers("SUM", x, x.sum(0, 0), 0);
+        Check.answers("STEEP", x, x.sum(0, 1), 10);
+        Check.answers("its second EDGE", x, x.ring(0, 1), 0);
+        Check.answers("no third", x, x.ring(0, 2), -2);
+        Check.answers("RINGS through it", x, x.edge(0, 7), 1);
     }
 
     private static void faultAndWhere() {
@@ -564,6 +583,8 @@ public final class PromisesTest {
         Check.answers("behind 60", z, z.gap(60), 12);
         Check.under("18 0 without RINGS");
         Check.answers("none", Tape.told(TINY), Tape.told(TINY).gap(60), 0);
+        z.valve(1, true);
+        Check.answers("none any more", z, z.gap(0), 0);
         Check.under("18 of the first ROUND: RINGS that are no more, too");
         // f0 -5: 25 by 4 and 11: 1.67: f1 2, f0 -3; 16 less 9 by 20 and 7: no step. Then the check is SHUT.
         RingWaters s = Tape.told("well w 10;joint a 5 at 0;check a w 1;pipe w a 4");
@@ -581,6 +602,11 @@ public final class PromisesTest {
         nothing("balance", y, 1, y::balance, -1, 0, 9, 10);
         y.draw(8, 60);
         Check.answers("the ninth", y, y.balance(8), 0);
+        Check.under("19 What comes to a JOINT, less what goes from it: from and to it, by either end");
+        RingWaters row = Tape.told("well w 9;joint a 1 at 0;joint b 2 at 0;joint c 4 at 0;pipe w a 1;pipe b a 1;pipe b c 1");
+        for (int j = 1; j <= 3; j++) {
+            Check.answers("in a row", row, row.balance(j), 0);
+        }
         Check.under("19 less what it draws (nothing, if it is DRY)");
         RingWaters z = Tape.told(DRY);
         Check.answers("DRY", z, z.balance(2), 0);
@@ -739,7 +765,7 @@ public final class PromisesTest {
         x.valve(1, true);
         Check.answers("all are DRY", x, x.pairs(), 0);
         Check.under("24 as many as can be");
-        // A ring of four: any two, but for the two of which a and c hang alone .. each pair cuts something off.
+        // Any two EDGES of a ring cut something off.
         x = Tape.told("well w 9;joint a 0 at 0;joint b 0 at 0;joint c 0 at 0;pipe w a 1;pipe a b 1;pipe b c 1;pipe c w 1");
         Check.answers("6 of 4", x, x.pairs(), 6);
         x = Tape.told("well w 9;joint a 0 at 0;joint b 0 at 0;joint c 0 at 0;joint d 0 at 0;joint e 0 at 0;joint f 0 at 0;"
@@ -1171,6 +1197,15 @@ public final class PromisesTest {
         Check.answers("valve", y, y.edge(13, 4), 0);
         y.undo();
         Check.answers("resist", y, y.edge(13, 3), 20);
+        y.valve(13, true);
+        y.valve(12, true);
+        y.valve(13, false);
+        y.undo();
+        Check.answers("an opening", y, y.edge(13, 4), 1);
+        Check.answers("the other", y, y.edge(12, 4), 1);
+        y.undo();
+        Check.answers("the other's closing", y, y.edge(12, 4), 0);
+        Check.answers("CLOSED still", y, y.edge(13, 4), 1);
     }
 
     // ---- what is told
@@ -1229,6 +1264,9 @@ public final class PromisesTest {
         Check.due("h at its end", z.named(600), 8);
         Check.noSuch("599 blanks", z, 599);
         Check.noSuch("601", z, 601);
+        z.text(0);
+        Tape.feed(z, " ".repeat(600));
+        Check.noSuch("600 blanks", z, 600);
     }
 
     private static void size() {
@@ -1266,5 +1304,44 @@ public final class PromisesTest {
         Check.due("5", x.trouble(), 5);
         x.weakest();
         Check.due("0 again", x.trouble(), 0);
+    }
+
+    /** 9 JOINTS, 14 EDGES, the last of all kinds: no call goes beyond its rows. */
+    private static void everyCallOnAFullNet() {
+        Check.under("as much as can be told: every call has an answer");
+        RingWaters x = Tape.told(FULL);
+        for (int j = 1; j <= 8; j++) {
+            x.measure(j, 900);
+        }
+        Check.answers("work", x, x.work(), 0);
+        Check.answers("weakest", x, x.weakest(), 1);
+        Check.answers("gap", x, x.gap(60), 0);
+        Check.answers("scaled", x, x.scaled(300), 900);
+        Check.answers("most", x, x.most(900), 300);
+        Check.answers("most", x, x.most(901), -2);
+        Check.answers("vital: h hangs by one", x, x.vital(), 128);
+        // a and g each have two EDGES, the others three: both of a's (0, 8), of g's (6, 13) make one DRY.
+        Check.answers("pairs", x, x.pairs(), 2);
+        // Only EDGE 13 has RESIST above 1.
+        Check.answers("widen", x, x.widen(), 13);
+        Check.answers("widened", x, x.widened(), 900);
+        Check.answers("fire", x, x.fire(8, 899), 1);
+        Check.answers("off", x, x.off(8, 2), 4);
+        Check.answers("leak: 1 at h is 1 off", x, x.leak(2), 1);
+        Check.answers("behind", x, x.behind(0), 8);
+        Check.under("as much as can be told: FLOWS that move");
+        // h draws 6 by EDGE 7 and 13 beside it: -36 by 1 and 13: -2.57: 3 in EDGE 13, 3 in EDGE 7.
+        x = Tape.told(STAR.replace("joint h 0", "joint h 6") + ";pipe w a 1;pipe w b 1;pipe w c 1;pipe w d 1;pipe w e 1;pipe w h 1");
+        Check.answers("EDGE 7", x, x.flow(7), 3);
+        Check.answers("EDGE 13", x, x.flow(13), 3);
+        Check.answers("SWEEPS", x, x.about(5), 2);
+        Check.answers("HEAD", x, x.head(8), 900 - 9);
+        Check.answers("BEGIN", x, x.early(7, 0), 6);
+        Check.answers("gap", x, x.gap(0), 36);
+        Check.answers("balance", x, x.balance(8), 0);
+        x = Tape.told(STAR + ";pipe w a 1;pipe w b 1;pipe w c 1;pipe w d 1;pipe w e 1;pump w h 6");
+        Check.answers("a pump at the end", x, x.edge(13, 2), 2);
+        Check.answers("its LIFT", x, x.lossAt(13, 9, 0), -600);
+        Check.answers("beyond its number", x, x.lossAt(13, 10, 0), 0);
     }
 }

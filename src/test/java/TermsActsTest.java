@@ -16,6 +16,7 @@ public final class TermsActsTest {
 
     public static void main(String[] args) {
         latestTwelve();
+        unlikeOnesBeyondTwelve();
         latestFirst();
         refusedActsAreNone();
         aTextLeavesNone();
@@ -67,10 +68,6 @@ public final class TermsActsTest {
         return Tape.told("well w 9;joint a 1 at 0;pipe w a 1");
     }
 
-    private static void allDry(RingWaters x) {
-        x.valve(0, true);
-    }
-
     // ---- acts
 
     private static void latestTwelve() {
@@ -109,6 +106,34 @@ public final class TermsActsTest {
             Check.answers("undo", x, x.undo(), left);
         }
         Check.answers("as told", x, x.joint(1, 0), 1);
+    }
+
+    private static void unlikeOnesBeyondTwelve() {
+        Check.under("III. the latest 12 of 14 unlike ones: each comes back to its own");
+        RingWaters x = Tape.told("well w 9;joint a 1 at 0;joint b 1 at 0;pipe w a 2;pipe w b 2;pipe a b 2");
+        x.draw(2, 7);
+        x.valve(2, true);
+        for (int i = 0; i < 3; i++) {
+            x.well(20 + i);
+            x.resist(i, 10 + i);
+            x.draw(1 + i % 2, 30 + i);
+            x.valve(i, i != 2);
+        }
+        Check.answers("12", x, x.about(7), 12);
+        for (int i = 2; i >= 0; i--) {
+            Check.answers("CLOSED", x, x.edge(i, 4), i == 2 ? 0 : 1);
+            x.undo();
+            Check.answers("valve undone", x, x.edge(i, 4), i == 2 ? 1 : 0);
+            x.undo();
+            Check.answers("draw undone", x, x.joint(1 + i % 2, 0), i == 2 ? 30 : i == 1 ? 7 : 1);
+            x.undo();
+            Check.answers("resist undone", x, x.edge(i, 3), 2);
+            x.undo();
+            Check.answers("well undone", x, x.head(0), i == 0 ? 900 : 100 * (19 + i));
+        }
+        Check.refused("the first two can't be", x, x.undo(), 5);
+        Check.answers("the first draw stays", x, x.joint(2, 0), 7);
+        Check.answers("the first valve stays", x, x.edge(2, 4), 1);
     }
 
     private static void latestFirst() {
@@ -304,7 +329,7 @@ public final class TermsActsTest {
         stays(TermsActsTest::bare, nothing("widened()", x -> x.widened(), 5));
         Supplier<RingWaters> closed = () -> {
             RingWaters x = ringed();
-            allDry(x);
+            x.valve(0, true);
             return x;
         };
         stays(closed, none("valve(0, true)", x -> x.valve(0, true), 5));

@@ -16,6 +16,7 @@ public final class TermsNetTest {
         stepsHeld();
         sweeps();
         sixtySweeps();
+        theSixtieth();
         shutting();
         leastNumberIsShut();
         shuttingComesFirst();
@@ -342,6 +343,71 @@ public final class TermsNetTest {
             Check.answers("f1 behind " + n, x, x.early(1, n), circle[n % 13]);
         }
         early(x, 60, 152, -150);
+        Check.under("II. 60 SWEEPS: circles of 3 .. 21 SWEEPS");
+        // f0 is 20 less f1, so one pump of both lifts: by the second f1 is 50 times k more, by the first, of 1, 50 less.
+        for (int k = 2; k <= 20; k++) {
+            x = Tape.told("well w 0;joint a 20 at 0;pump w a 1;pump w a " + k);
+            for (int n : new int[] {0, 1, 2, k, k + 1, k + 2, 7, 15, 16, 31, 32, 33, 58, 59, 60}) {
+                int turn = n % (k + 1);
+                Check.answers("f1 by " + k + " behind " + n, x, x.early(1, n), turn == 0 ? 0 : 50 * (k + 1 - turn));
+            }
+        }
+        Check.under("II. 60 SWEEPS: circles that come back to FLOWS of 0 everywhere");
+        // Nobody draws: by 0 both lift, so f1 is 50 times k less 1 more; then 50 less.
+        for (int k = 2; k <= 20; k++) {
+            x = Tape.told("well w 0;joint a 0 at 0;pump w a 1;pump w a " + k);
+            for (int n : new int[] {0, 1, 2, k - 1, k, k + 1, 15, 16, 31, 32, 58, 59, 60}) {
+                int turn = n % k;
+                Check.answers("f1 by " + k + " behind " + n, x, x.early(1, n), turn == 0 ? 0 : 50 * (k - turn));
+            }
+        }
+        Check.under("II. 60 SWEEPS: no circle in 60");
+        // f1 and f2 are one; f0 19 less these. Held to 1,000 by the pump of 300; then 100 by 3, 33 less, 30 times, to 10,
+        // the 31st to -23; then 1,000 more, 977; then 33 less 27 times.
+        x = Tape.told("well w 0;joint a 19 at 0;joint b 0 at 0;pump w a 1;pump w b 300;pump b a 0");
+        early(x, 1, 19 - 1000, 1000, 1000);
+        early(x, 2, 19 - 967, 967, 967);
+        early(x, 31, 9, 10, 10);
+        early(x, 32, 42, -23, -23);
+        early(x, 33, 19 - 977, 977, 977);
+        early(x, 60, 19 - 86, 86, 86);
+    }
+
+    /** As above, by six pumps: -30,000 by 6, held; then 100 by 6, 17 less each, till EDGE 0 has 10, by which it lifts nothing. */
+    private static RingWaters slowly(int draws) {
+        return Tape.told("well w 0;joint a " + draws + " at 0;joint b 0 at 0;joint c 0 at 0;joint e 0 at 0;joint f 0 at 0;"
+                + "pump w a 1;pump w b 300;pump b c 0;pump c e 0;pump e f 0;pump f a 0");
+    }
+
+    private static void theSixtieth() {
+        Check.under("II. 59 SWEEPS: the 59th moves nothing");
+        // 1,000 less 57 times 17 is 31: 41 less 31 is 10.
+        RingWaters x = slowly(41);
+        solved(x, true, 1, 59, 0, 0);
+        early(x, 57, 41 - 48, 48, 48, 48, 48, 48);
+        early(x, 58, 10, 31, 31, 31, 31, 31);
+        early(x, 60, 10, 31, 31, 31, 31, 31);
+        flows(x, 10, 31, 31, 31, 31, 31);
+        Check.under("II. 60 SWEEPS: the 60th moves nothing");
+        // 40 less 31 is 9; 58 times 17 leaves 14.
+        x = slowly(40);
+        solved(x, true, 1, 60, 0, 0);
+        early(x, 58, 9, 31, 31, 31, 31, 31);
+        early(x, 59, 26, 14, 14, 14, 14, 14);
+        early(x, 60, 26, 14, 14, 14, 14, 14);
+        flows(x, 26, 14, 14, 14, 14, 14);
+        Check.under("II. 60 SWEEPS: the 60th moves still");
+        // 24 less 14 is 10, 23 less 14 is 9: the 60th makes -3 of 14.
+        early(slowly(24), 60, 10, 14, 14, 14, 14, 14);
+        early(slowly(23), 59, 9, 14, 14, 14, 14, 14);
+        early(slowly(23), 60, 26, -3, -3, -3, -3, -3);
+        Check.under("II. a FLOW below 0 behind the 60th is looked at: EDGE 1, the least of these, is SHUT, so a new ROUND begins");
+        // Without EDGE 1 there is no RING; all hang behind a and draw nothing: 0 in each, so the net stays so, unless the
+        // well's HEAD and 300 is more than that of b. It is, as b has HEAD of a, 0: opened and SHUT by turns, SHUT in the 20th.
+        x = slowly(23);
+        solved(x, false, 20, 1, 0, 2);
+        flows(x, 23, 0, 0, 0, 0, 0);
+        heads(x, 0, 0, 0);
     }
 
     private static void shutting() {

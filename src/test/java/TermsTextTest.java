@@ -109,6 +109,22 @@ public final class TermsTextTest {
                 faulty(1, each, b == ';' ? each.length() : text.length());
             }
         }
+        Check.under("I. all 256 bytes behind a LIFT: a blank, a digit, ; , alone may stand there");
+        text = ONE + "pump w a 9";
+        for (int b = 0; b < 256; b++) {
+            String each = text + (char) b + "3";
+            if (b == ',') {
+                x = taken(each, 2);
+                Check.answers("a second LIFT", x, x.lossAt(0, 10, 0), -300);
+            } else if (b == '0') {
+                faulty(2, ONE + "pump w a ^903");
+            } else if (b >= '1' && b <= '9') {
+                faulty(2, each, text.length() - 1);
+            } else {
+                faulty(1, each, b == ' ' || b == ';' ? text.length() + 1 : text.length());
+            }
+        }
+        text = ONE + "pipe w a 1";
         Check.under("I. all 256 bytes ahead of a whole text: blanks alone may stand there");
         for (int b = 0; b < 256; b++) {
             String each = (char) b + text;
