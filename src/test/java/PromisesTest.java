@@ -847,8 +847,16 @@ public final class PromisesTest {
         Check.answers("b draws 1", x, x.pressure(3), -2);
         Check.under("23 The greatest n, also where it is not by 0");
         // By 0 .. 99 a draws nothing, too: all have 100, PRESSURE of b is 0. By 100 .. 199 a and b draw 1: -2.
+        // By 200 .. 299 they draw 2: 4, -2, 0, 0; -192 by 165: 3, -1, 1, 1; -81 by 115: 2, 0, 2, 2; -20 by 65. b has HEAD
+        // of a, 100 less 28. By 300 they draw 3: 6, -3, 0, 0; -432 by 233: 4, -1, 2, 2; -124 by 133: 3, 0, 3, 3;
+        // -45 by 83: 2, 1, 4, 4; 24 by 113. b has 20 more than a, 92.
         Check.answers("0 by 99", x, x.most(0), 99);
         Check.answers("-2 by 199", x, x.most(-2), 199);
+        Check.answers("-8 by 300, though not by 200", x, x.most(-8), 300);
+        Check.answers("-7 by 199", x, x.most(-7), 199);
+        Check.answers("by 200", x, x.scaled(200), -28);
+        Check.answers("by 300", x, x.scaled(300), -8);
+        Check.answers("by 100", x, x.scaled(100), -2);
     }
 
     private static void cut() {
