@@ -24,6 +24,7 @@ public final class TermsNetTest {
         openingByHeads();
         openingByLift();
         twentyRounds();
+        circlesOfFourRounds();
         noMoreInTheTwentieth();
         solvedAnew();
         headsAndPressures();
@@ -554,6 +555,41 @@ public final class TermsNetTest {
         flows(x, 1, 0, 1, 0, 1, 0, 1, 0, 0, 0, 0, 0, 6, 5);
         Check.answers("the first is open", x, x.edge(0, 5), 0);
         Check.answers("the last isn't", x, x.edge(7, 5), 1);
+    }
+
+    /**
+     * Without those ahead: w meets c by EDGE 0, a by 1; c, ahead of a, meets b by 3, if that is open.
+     * None SHUT: f -16, -5, 0, -5, 0. RING of 2: -75, 512 by 5, 33, 66: 4.2: -12, -9, -4, -5, 0; that of 4: -243, 288
+     * by 1, 57, 50, 1: 0.4; then -80, -243, 288 by 45, 57, 50: -0.2. EDGE 2 is SHUT.
+     * 2 SHUT: -16, -5, 0, -5, 0. RING of 4: 437 by 101: 4.3: -12, -9, 0, -1, -4; then -16, -243, 288 by 117: 0.2. EDGE 3
+     * is SHUT.
+     * 2, 3 SHUT: no RING, b hangs on a by 4: -11, -10, 0, 0, -5. HEADS 900 less 242 of c, less 300 of a: 2 is opened.
+     * 3 SHUT: RING of 2: -300, 242 by 5, 63, 46: -0.51: -12, -9, 1, 0, -5; then 5, -243, 288 by 15, 57, 50: 0.4. HEADS
+     * 612 of c, 632 of b: 3 is opened, and none is SHUT again.
+     * Each check ahead of these has -1, as its JOINT draws 1: it is SHUT first, one a ROUND; its JOINT is DRY, so it stays so.
+     */
+    private static void circlesOfFourRounds() {
+        String[] shut = {"none", "2", "2, 3", "3"};
+        int[] bits = {0, 4, 12, 8};
+        int[] sweeps = {2, 2, 1, 2};
+        long[][] flows = {{-12, -9, -4, -5, 0}, {-12, -9, 0, -1, -4}, {-11, -10, 0, 0, -5}, {-12, -9, 1, 0, -5}};
+        long[][] heads = {{900, 657, 612, 612}, {900, 657, 612, 612}, {900, 600, 575, 658}, {900, 657, 632, 612}};
+        for (int ahead = 0; ahead <= 3; ahead++) {
+            int turn = (19 - ahead) % 4;
+            Check.under("II. 20 ROUNDS at most: four by turns, " + ahead + " ahead of these, SHUT in the 20th: " + shut[turn]);
+            StringBuilder text = new StringBuilder("well w 9;joint a 5 at 0;joint b 5 at 0;joint c 11 at 0");
+            for (int i = 0; i < ahead; i++) {
+                text.append(";joint ").append((char) ('x' + i)).append(" 1 at 0;check ").append((char) ('x' + i)).append(" w 1");
+            }
+            text.append(";pipe c w 2;pipe a w 3;check c a 5;pump b c 0;pipe b a 1");
+            RingWaters x = Tape.told(text.toString());
+            int first = (1 << ahead) - 1;
+            solved(x, false, 20, sweeps[turn], first << 4, first | bits[turn] << ahead);
+            for (int e = 0; e < 5; e++) {
+                Check.answers("FLOW of " + e, x, x.flow(ahead + e), flows[turn][e]);
+            }
+            heads(x, heads[turn]);
+        }
     }
 
     private static void noMoreInTheTwentieth() {
